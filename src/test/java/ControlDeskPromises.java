@@ -371,12 +371,13 @@ public final class ControlDeskPromises {
         for (int number : ELSEWHERE) {
             for (int operation = WRITE; operation <= CLEAR; operation++) {
                 for (long fs : new long[] {FS_1, FS_2, FS_3}) {
-                    ControlDesk desk = withStatus(fs);
+                    long others = SIE | MPIE | MPP_1 | SUM | TW;
+                    ControlDesk desk = withStatus(fs | others);
                     desk.access(769, WRITE, false, 0);
                     due("read of " + number, desk.access(number, operation, false, -1), ControlDesk.ELSEWHERE);
                     due("FS after a read of " + number, desk.peek(768) & FS_3, fs);
                     due("write of " + number, desk.access(number, operation, true, 0), ControlDesk.ELSEWHERE);
-                    due("FS after a write of " + number, desk.peek(768), STATUS_ALWAYS | (number <= 3 || fs == FS_3 ? FS_3 | TOP : fs));
+                    due("FS after a write of " + number, desk.peek(768), others | STATUS_ALWAYS | (number <= 3 || fs == FS_3 ? FS_3 | TOP : fs));
                     due("had() after ELSEWHERE", desk.had(), EXTENSIONS);
                     due("peek(" + number + ")", desk.peek(number), 0);
                 }
@@ -494,15 +495,15 @@ public final class ControlDeskPromises {
         changesNothing("peek", () -> busy(1), other -> other.peek(769));
     }
 
-    /** A trap in a mode, with all delegated that can be, or nothing. */
-    private static void trapOnce(int mode, boolean delegates, boolean interrupt, int cause, boolean enabled) {
+    /** A trap in a mode, with all delegated that can be, or nothing; a return makes MIE of the enables' MPIE first. */
+    private static void trapOnce(int mode, boolean delegates, boolean interrupt, int cause, long enables) {
         String what = "trap(" + interrupt + ", " + cause + ") in mode " + mode + ", delegates " + delegates;
         ControlDesk desk = new ControlDesk(0);
         write(desk, 770, delegates ? -1 : 0);
         write(desk, 771, delegates ? -1 : 0);
         write(desk, 773, 4097);
         write(desk, 261, 8193);
-        write(desk, 768, (enabled ? SIE | MPIE : SPIE) | (long) mode << 11);
+        write(desk, 768, enables | (long) mode << 11);
         desk.back(true);
         long before = desk.peek(768);
         boolean sie = (before & SIE) != 0;
@@ -531,8 +532,9 @@ public final class ControlDeskPromises {
     private static void promise7Trap() {
         for (int mode : new int[] {0, 1, 3}) {
             for (int cause = 0; cause <= 63; cause++) {
-                for (int variant = 0; variant < 8; variant++) {
-                    trapOnce(mode, (variant & 1) != 0, (variant & 2) != 0, cause, (variant & 4) != 0);
+                for (int variant = 0; variant < 32; variant++) {
+                    long enables = ((variant & 4) != 0 ? SIE : 0) | ((variant & 8) != 0 ? MPIE : 0) | ((variant & 16) != 0 ? SPIE : 0);
+                    trapOnce(mode, (variant & 1) != 0, (variant & 2) != 0, cause, enables);
                 }
             }
         }
