@@ -6,6 +6,8 @@ public final class ControlDeskWalk {
     private static final int WALKS = 20000;
     // The steps, their four questions each and the closing look at everything stay under 512 calls.
     private static final int STEPS = 70;
+    private static final int LONG_WALKS = 2000;
+    private static final int LAST_CALL = 512;
 
     private static final int[] NUMBERS = {
         256, 260, 261, 262, 320, 321, 322, 323, 324, 384,
@@ -297,6 +299,13 @@ public final class ControlDeskWalk {
         due("allowed(FENCE)", desk.allowed(ControlDesk.FENCE), model.allowed(ControlDesk.FENCE));
     }
 
+    private static void lookAround(ControlDesk desk, Model model) {
+        due("mode()", desk.mode(), model.mode);
+        due("had()", desk.had(), model.had);
+        due("place()", desk.place(), model.place);
+        due("taken()", desk.taken(), model.taken());
+    }
+
     private static void walkOnce(Random dice) {
         int processor = dice.nextInt(4);
         ControlDesk desk = new ControlDesk(processor);
@@ -304,11 +313,21 @@ public final class ControlDeskWalk {
         int steps = 1 + dice.nextInt(STEPS);
         for (int k = 0; k < steps; k++) {
             step(desk, model, dice);
-            due("mode()", desk.mode(), model.mode);
-            due("had()", desk.had(), model.had);
-            due("place()", desk.place(), model.place);
-            due("taken()", desk.taken(), model.taken());
+            lookAround(desk, model);
         }
+        lookAtAll(desk, model);
+    }
+
+    /** As many steps as leave room for the two closing looks, whose last question is then call 512. */
+    private static void walkToTheLast(Random dice) {
+        int processor = dice.nextInt(4);
+        ControlDesk desk = new ControlDesk(processor);
+        Model model = new Model(processor);
+        int looks = 4 + NUMBERS.length + 5;
+        for (int k = 0; k < LAST_CALL - looks; k++) {
+            step(desk, model, dice);
+        }
+        lookAround(desk, model);
         lookAtAll(desk, model);
     }
 
@@ -316,6 +335,9 @@ public final class ControlDeskWalk {
         Random dice = new Random(17);
         for (walk = 1; walk <= WALKS; walk++) {
             walkOnce(dice);
+        }
+        for (; walk <= WALKS + LONG_WALKS; walk++) {
+            walkToTheLast(dice);
         }
         System.out.println(wrong == 0 ? "all answers are as due" : wrong + " answers are not as due");
         if (wrong != 0) {
